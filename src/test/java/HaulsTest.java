@@ -7,6 +7,7 @@ public final class HaulsTest {
         grams();
         shares();
         greatShares();
+        manyHauls();
         wrongShares();
         CHECKS.end();
     }
@@ -86,6 +87,19 @@ public final class HaulsTest {
         }
         // 1000 / 5985 by 80001 and 999 / 5964 by 79602.
         share(x, new int[] {-100, -100}, 0, 432232883L, 2583653364L);
+    }
+
+    private static void manyHauls() {
+        KindTables x = new KindTables(2, 1);
+        for (int i = 0; i < 12; i++) {
+            x.haul(i, 0);
+        }
+        share(x, new int[] {11, 0}, 1, 0, 1);
+        x.grams(11, 1, 1);
+        share(x, new int[] {0, 0}, 1, 1, 1);
+        x.grams(0, 0, 1);
+        share(x, new int[] {11, 0}, 1, 122, 123);
+        share(x, new int[] {11, 0}, 0, 1, 123);
     }
 
     private static void wrongShares() {

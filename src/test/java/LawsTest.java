@@ -74,6 +74,12 @@ public final class LawsTest {
         CHECKS.due("24: at the last row", 41, x.length(0, 2000));
         CHECKS.due("24: more than any", -1, x.length(0, 2001));
         CHECKS.due("24: greatest int", -1, x.length(0, Integer.MAX_VALUE));
+        x.law(1, 10, 100);
+        x.law(1, 20, 135);
+        int[] due = {10, 11, 11, 11, 12};
+        for (int i = 0; i < due.length; i++) {
+            CHECKS.due("24: behind the first row, " + (100 + i), due[i], x.length(1, 100 + i));
+        }
         CHECKS.refused("24: no kind", Checks.INDEX, () -> x.length(2, 10));
         CHECKS.refused("24: kind -1", Checks.INDEX, () -> x.length(-1, 10));
     }

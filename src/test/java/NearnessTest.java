@@ -6,6 +6,7 @@ public final class NearnessTest {
         groups();
         nearest();
         distances();
+        full();
         CHECKS.end();
     }
 
@@ -73,5 +74,18 @@ public final class NearnessTest {
         CHECKS.refused("18: other -1", Checks.INDEX, () -> x.distance(0, -1));
         CHECKS.refused("18: no example", Checks.INDEX, () -> x.distance(2, 0));
         CHECKS.refused("18: example -1", Checks.INDEX, () -> x.distance(-1, 0));
+    }
+
+    private static void full() {
+        KindTables x = new KindTables(1, 8);
+        for (int i = 0; i < 24; i++) {
+            x.example(0);
+            x.value(i, 0, 80 * i);
+        }
+        CHECKS.due("16: 24 examples by all but one feature", 1, x.groups(10));
+        CHECKS.due("16: 24 examples by all features: cells 0 to 18", 19, x.groups(11));
+        CHECKS.due("17: the last of 23", 0, x.nearest(23, 22));
+        CHECKS.due("17: not so many of 24", -1, x.nearest(23, 23));
+        CHECKS.due("18: first and last of 24", 1840 * 1840, x.distance(0, 23));
     }
 }
