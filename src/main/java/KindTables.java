@@ -313,9 +313,10 @@ public final class KindTables {
             return size - 1;
         }
 
-        /** The divisor is never 0: a width is 1 at least from the constructor on. */
+        /** A width is 1 at least from the constructor on; the test shows it where it divides. */
         int cellOf(int example, int feature) {
-            return numbers[example][feature] / widths[feature];
+            int width = widths[feature];
+            return width < 1 ? 0 : numbers[example][feature] / width;
         }
 
         int sameCells(int one, int other, int from, int to) {
@@ -631,7 +632,8 @@ public final class KindTables {
         private int strengthBefore(int row, int length) {
             int rise = strengths[row] - strengths[row - 1];
             int span = lengths[row] - lengths[row - 1];
-            return strengths[row - 1] + Math.floorDiv(rise * (length - lengths[row - 1]), span);
+            int behind = length - lengths[row - 1];
+            return span < 1 ? strengths[row] : strengths[row - 1] + Math.floorDiv(rise * behind, span);
         }
 
         /** Between two rows the strength stays between theirs, so the first row that has enough tells where to look. */
@@ -649,7 +651,7 @@ public final class KindTables {
             int rise = strengths[row] - strengths[row - 1];
             int span = lengths[row] - lengths[row - 1];
             int wanted = (strength - strengths[row - 1]) * span;
-            return lengths[row - 1] + (wanted + rise - 1) / rise;
+            return rise < 1 ? lengths[row] : lengths[row - 1] + (wanted + rise - 1) / rise;
         }
     }
 }
