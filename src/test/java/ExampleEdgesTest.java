@@ -147,7 +147,8 @@ public final class ExampleEdgesTest {
             EDGES.range(scene, "4: teach example", Checks.INDEX, new int[] {0, scene.examples - 1}, (x, n) -> x.teach(n, 0));
         }
         for (Scene scene : WITH_EXAMPLES) {
-            EDGES.range(scene, "4: teach as kind", Checks.INDEX, new int[] {-1, scene.kinds - 1}, (x, n) -> x.teach(0, n));
+            EDGES.range(scene, "4: teach as kind", Checks.INDEX, new int[] {-1, scene.kinds - 1},
+                    (x, n) -> x.teach(scene.examples - 1, n));
         }
     }
 

@@ -185,6 +185,8 @@ public final class LawEdgesTest {
         }
         CHECKS.due("24: of 0 at the least length", 1, withRows(1, 0).length(1, 0));
         CHECKS.due("24: a steep rise", 2, withRows(1, 0, 2, 2000).length(1, 1));
+        CHECKS.due("24: just behind the first row", 2, withRows(1, 0, 11, 100).length(1, 10));
+        CHECKS.due("24: two behind the first row", 3, withRows(1, 0, 11, 100).length(1, 11));
         CHECKS.due("24: a slow rise", 1000, withRows(1, 0, 1000, 1).length(1, 1));
     }
 

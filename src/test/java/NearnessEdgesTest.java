@@ -9,6 +9,7 @@ public final class NearnessEdgesTest {
         groupsOfOneExample();
         atLeastSoManyFeatures();
         groupsHangTogether();
+        groupsAreMadeAnew();
         groupsOfAll();
         leastOutside();
         itselfLeftOut();
@@ -79,6 +80,26 @@ public final class NearnessEdgesTest {
         CHECKS.due("16: one pair, two left", 3, x.groups(1));
         CHECKS.due("16: none alike", 4, x.groups(2));
         CHECKS.due("16: by 0 all are alike", 1, x.groups(0));
+    }
+
+    /** Promise 16: what hung together before is nothing to the next call. */
+    private static void groupsAreMadeAnew() {
+        KindTables x = examples(3, -1);
+        for (int feature = 0; feature < 11; feature++) {
+            x.value(0, feature, 500);
+            x.value(1, feature, 700);
+        }
+        x.value(0, 3, 0);
+        x.value(1, 4, 0);
+        CHECKS.due("16: both hang together by the last one", 1, x.groups(1));
+        for (int feature = 0; feature < 11; feature++) {
+            x.value(1, feature, feature == 3 ? 0 : 500);
+            x.value(2, feature, 1500);
+        }
+        CHECKS.due("16: now they do so without it", 2, x.groups(11));
+        CHECKS.due("16: and again", 2, x.groups(11));
+        x.value(1, 0, 900);
+        CHECKS.due("16: none with another", 3, x.groups(11));
     }
 
     /** Promise 16: "all EXAMPLES", 24 at most. */

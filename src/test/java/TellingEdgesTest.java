@@ -304,6 +304,10 @@ public final class TellingEdgesTest {
         CHECKS.due("13: the last one is the only one", 10, x.best(0));
         CHECKS.due("13: then the least", 0, x.best(1));
         CHECKS.due("13: then the next", 9, x.best(10));
+        x.value(0, 0, 0);
+        CHECKS.due("13: the first and the last are the same", 0, x.best(0));
+        CHECKS.due("13: then the last", 10, x.best(1));
+        CHECKS.due("13: then the others", 1, x.best(2));
     }
 
     /** Promise 13: "IndexOutOfBoundsException: there are not so many". */

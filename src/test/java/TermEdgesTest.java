@@ -31,17 +31,19 @@ public final class TermEdgesTest {
         }
     }
 
-    /** Terms: "a number 0 .. 2000 for each feature (0 at first)". */
+    /** Terms: "a number 0 .. 2000 for each feature (0 at first)", whatever others have by then. */
     private static void numbersAtFirst() {
         KindTables x = new KindTables(1, 8);
-        for (int feature = 0; feature < 11; feature++) {
-            x.width(feature, 1);
-        }
         for (int i = 0; i < 24; i++) {
             x.example(0);
             for (int feature = 0; feature < 11; feature++) {
-                CHECKS.due("3: 0 at first", 0, x.cell(i, feature));
+                CHECKS.due("3: 0 at first", false, x.value(i, feature, 0));
             }
+            x.value(i, i % 11, 2000);
+        }
+        for (int i = 0; i < 24; i++) {
+            CHECKS.due("3: what it was set to", 20, x.cell(i, i % 11));
+            CHECKS.due("3: the others are 0 still", 0, x.cell(i, (i + 1) % 11));
         }
     }
 
