@@ -13,6 +13,7 @@ public final class TermEdgesTest {
         manyRefusalsChangeNothing();
         noneIsMinusOne();
         the512thCall();
+        theSameQuestionUpToThe512thCall();
         objectsHaveNothingInCommon();
         CHECKS.end();
     }
@@ -161,6 +162,23 @@ public final class TermEdgesTest {
             CHECKS.refused("8: refused, call " + call, Checks.INDEX, () -> z.tell(0));
         }
         CHECKS.due("2: the 512th call, all others refused", 0, z.example(0));
+    }
+
+    /** The same: a question asked 511 times, behind the one call that makes an example, has one answer. */
+    private static void theSameQuestionUpToThe512thCall() {
+        Edges.Call[] questions = {
+            x -> x.cell(0, 0), x -> x.votes(0, 0), x -> x.tell(0), x -> x.wrong(0, -1, 1), x -> x.right(0),
+            x -> x.best(1), x -> x.unknown(), x -> x.mixed(0, 1), x -> x.groups(0), x -> x.nearest(0, 0),
+            x -> x.distance(0, 0), x -> x.share(0, 0, 0, 1), x -> x.strength(0, 1), x -> x.length(0, 1),
+            x -> x.count(0), x -> x.teach(0, 0), x -> x.width(0, 100), x -> x.bound(1), x -> x.prefer(0)};
+        long[] due = {0, 0, -1, 1, 0, 1, 1, 1, 1, -1, 0, 1, -1, -1, 1, 0, 100, 1, 0};
+        for (int i = 0; i < questions.length; i++) {
+            KindTables x = new KindTables(2, 1);
+            x.example(0);
+            for (int call = 2; call <= 512; call++) {
+                CHECKS.due("question " + i + ", call " + call, due[i], questions[i].answer(x));
+            }
+        }
     }
 
     /** Nothing of one object is seen in another. */
