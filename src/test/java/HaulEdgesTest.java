@@ -7,6 +7,7 @@ public final class HaulEdgesTest {
 
     public static void main(String[] args) {
         haulOutside();
+        haulNumbers();
         thereAre12();
         gramsOfNone();
         gramsOutside();
@@ -34,7 +35,16 @@ public final class HaulEdgesTest {
         }
     }
 
-    /** Promise 19: "A HAUL more at a place: its number"; "IllegalStateException: there are 12". */
+    /** Promise 19: "A HAUL more at a place: its number". */
+    private static void haulNumbers() {
+        KindTables x = new KindTables(1, 1);
+        CHECKS.due("19: the first, in a corner", 0, x.haul(-100, -100));
+        CHECKS.due("19: the next, in another", 1, x.haul(100, 100));
+        CHECKS.due("19: one more at the same place", 2, x.haul(100, 100));
+        CHECKS.due("19: three", 3, x.count(2));
+    }
+
+    /** Promise 19: "IllegalStateException: there are 12". */
     private static void thereAre12() {
         KindTables x = new KindTables(1, 1);
         for (int i = 0; i < 12; i++) {

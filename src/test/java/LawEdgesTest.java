@@ -9,6 +9,7 @@ public final class LawEdgesTest {
         lengthOutside();
         lengthNotAboveTheLast();
         strengthOutside();
+        howManyItHas();
         itHas6();
         eachKindHasItsOwn();
         noneWithoutRows();
@@ -70,11 +71,20 @@ public final class LawEdgesTest {
         CHECKS.due("22: the greatest strength can be used", 2000, withRows(5, 2000).strength(1, 5));
     }
 
-    /** Promise 22: "how many it has"; "IllegalStateException: it has 6". */
+    /** Promise 22: "A row more of a kind's LAW: how many it has". */
+    private static void howManyItHas() {
+        KindTables x = new KindTables(2, 1);
+        for (int row = 1; row <= 6; row++) {
+            CHECKS.due("22: how many kind 0 has", row, x.law(0, row, 0));
+            CHECKS.due("22: how many kind 1 has", row, x.law(1, 100 * row, 2000));
+        }
+    }
+
+    /** Promise 22: "IllegalStateException: it has 6". */
     private static void itHas6() {
         KindTables x = new KindTables(6, 1);
         for (int row = 1; row <= 6; row++) {
-            CHECKS.due("22: how many it has", row, x.law(5, row, 2000 - row));
+            CHECKS.due("22: there is room for 6", row, x.law(5, row, 2000 - row));
         }
         CHECKS.refused("22: it has 6", Checks.STATE, () -> x.law(5, 7, 0));
         CHECKS.due("22: the sixth is still the last", 1994, x.strength(5, 6));
@@ -88,7 +98,7 @@ public final class LawEdgesTest {
         }
     }
 
-    /** Promise 22: "A row more of a kind's LAW". */
+    /** Terms: "The LAW of a kind": no other kind has its rows. */
     private static void eachKindHasItsOwn() {
         KindTables x = new KindTables(6, 1);
         for (int kind = 0; kind < 6; kind++) {

@@ -10,7 +10,9 @@ public final class TellingEdgesTest {
         mostVotes();
         votesOfNone();
         firstInTheOrder();
+        orderAtFirst();
         fewerThanTheBound();
+        noneForUnknown();
         boundOfNothing();
         tellNone();
         boundOutside();
@@ -100,7 +102,7 @@ public final class TellingEdgesTest {
         }
     }
 
-    /** Terms: "of several the first of them in the ORDER"; "The ORDER is 0, 1, .. at first". */
+    /** Terms: "of several the first of them in the ORDER". */
     private static void firstInTheOrder() {
         KindTables x = taughtAs(6, -1, 5, 4, 3, 2, 1, 0);
         CHECKS.due("8: all have 4, first 0", 0, x.tell(0));
@@ -115,7 +117,16 @@ public final class TellingEdgesTest {
         CHECKS.due("8: the first of those with the most, not of all", 4, x.tell(0));
     }
 
-    /** Terms: "UNKNOWN if that has fewer VOTES than the BOUND (1 at first)"; promise 8: "NONE for UNKNOWN". */
+    /** Terms: "The ORDER is 0, 1, .. at first". */
+    private static void orderAtFirst() {
+        for (int kinds = 1; kinds <= 6; kinds++) {
+            for (int kind = 0; kind < kinds; kind++) {
+                CHECKS.due("10: its place at first", kind, new KindTables(kinds, 1).prefer(kind));
+            }
+        }
+    }
+
+    /** Terms: "UNKNOWN if that has fewer VOTES than the BOUND (1 at first)". */
     private static void fewerThanTheBound() {
         KindTables x = taughtAs(2, -1, 1);
         apart(x, 1, 9);
@@ -128,7 +139,12 @@ public final class TellingEdgesTest {
         CHECKS.due("8: two votes, bound 2", 1, x.tell(0));
         x.bound(1000);
         CHECKS.due("8: the greatest bound", -1, x.tell(0));
-        CHECKS.due("8: no other one votes at all", -1, taughtAs(1, 0).tell(0));
+    }
+
+    /** Promise 8: "NONE for UNKNOWN". */
+    private static void noneForUnknown() {
+        CHECKS.due("8: no other one votes, taught", KindTables.NONE, taughtAs(1, 0).tell(0));
+        CHECKS.due("8: no other one votes, not taught", KindTables.NONE, taughtAs(6, -1, -1).tell(1));
     }
 
     /** With a BOUND of 0 nothing has fewer VOTES than it. */
